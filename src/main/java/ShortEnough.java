@@ -103,7 +103,8 @@ public final class ShortEnough {
         Task old = current;
         current = spare;
         spare = old;
-        current.groups.firstChoice(hand);
+        current.settle();
+        current.groups.fillFree(hand, 0);
         full.forget();
         local.forget();
         reader.forget();
@@ -285,10 +286,14 @@ public final class ShortEnough {
     // ---- searched
 
     public int cheapest(int number) {
-        if (!full.findCheapest(current, other)) {
+        if (!full.search(current) || full.best == NONE) {
             return NONE;
         }
-        return number == NONE ? full.bestPrice : formatIn(other, number);
+        if (number == NONE) {
+            return full.bestPrice;
+        }
+        FullSearch.unfold(current, full.best, other);
+        return current.hasNumber(number) ? current.formatOf(other, number) : NONE;
     }
 
     public int passing() {
@@ -302,7 +307,10 @@ public final class ShortEnough {
         if (number == ASK_TRIES) {
             return local.tries;
         }
-        return number == NONE ? local.price : formatIn(local.row, number);
+        if (number == NONE) {
+            return local.price;
+        }
+        return current.hasNumber(number) ? current.formatOf(local.row, number) : NONE;
     }
 
     public int single(int what) {
@@ -322,9 +330,10 @@ public final class ShortEnough {
     public int take(int what) {
         boolean taken = false;
         if (what == 0) {
-            taken = full.findCheapest(current, hand);
-        } else if (what == 1) {
-            taken = takeHalves();
+            taken = takeCheapest();
+        } else if (what == 1 && local.goByHalves(current)) {
+            taken = true;
+            copyChoice(local.row, hand);
         } else if (what == 2) {
             taken = takeSingle();
         }
@@ -456,15 +465,11 @@ public final class ShortEnough {
         return otherReckoning.reckon(current, longerRanges, hand);
     }
 
-    private int formatIn(int[] choice, int number) {
-        return current.hasNumber(number) ? current.formatOf(choice, number) : NONE;
-    }
-
-    private boolean takeHalves() {
-        if (!local.goByHalves(current)) {
+    private boolean takeCheapest() {
+        if (!full.search(current) || full.best == NONE) {
             return false;
         }
-        copyChoice(local.row, hand);
+        FullSearch.unfold(current, full.best, hand);
         return true;
     }
 
@@ -473,7 +478,7 @@ public final class ShortEnough {
             return false;
         }
         local.lookAround(current, hand);
-        if (!current.groups.isThere(local.bestGroup)) {
+        if (!current.groups.isFree(local.bestGroup)) {
             return false;
         }
         hand[local.bestGroup] = local.bestFormat;
@@ -517,12 +522,13 @@ public final class ShortEnough {
     }
 
     /** Words, numbers and signs on the tape, one after the other. */
-    private static final class Scanner {
+    private static final class Words {
         static final int AT_END = 0;
         static final int WORD = 1;
         static final int AMOUNT = 2;
         static final int SIGN = 3;
         static final int BAD = 4;
+        private static final int BLANK = 5;
 
         static final int FORMAT = 0;
         static final int STEP = 1;
@@ -537,7 +543,7 @@ public final class ShortEnough {
         static final int GROUP = 10;
         static final int ANSWER = 11;
         static final int WITHIN = 12;
-        static final int OWN_WORDS = 13;
+        private static final int OWN_WORDS = 13;
         private static final String OWN_TEXT =
             "format step   most   cost   cast   input  let    min    max    fixed  group  answer within ";
         private static final int OWN_WIDTH = 7;
@@ -552,10 +558,11 @@ public final class ShortEnough {
         int value;
         int own;
 
-        Scanner() {
+        Words() {
             for (int w = 0; w < OWN_WORDS; w++) {
                 for (int k = 0; k < NAME_LETTERS; k++) {
-                    char c = OWN_TEXT.charAt(w * OWN_WIDTH + k);
+                    int at = w * OWN_WIDTH + k;
+                    char c = at < OWN_TEXT.length() ? OWN_TEXT.charAt(at) : ' ';
                     ownNames[w] = ownNames[w] << LETTER_BITS | (c == ' ' ? 0 : c - 'a' + 1);
                 }
             }
@@ -572,26 +579,53 @@ public final class ShortEnough {
         void advance() {
             int behind = place;
             boolean couldJoin = kind == WORD || kind == AMOUNT;
-            while (place < length && isBlank(text[place])) {
+            while (place < length && kindOf(text[place]) == BLANK) {
                 place++;
             }
             start = place;
-            own = NONE;
+            kind = place < length ? kindOf(text[place]) : AT_END;
             value = 0;
-            if (place >= length) {
-                kind = AT_END;
-            } else if (isLetter(text[place])) {
-                readWord();
-            } else if (isDigit(text[place])) {
-                readAmount();
-            } else {
-                kind = SIGN;
-                value = text[place];
+            int size = 0;
+            while (place < length && kindOf(text[place]) == kind && (kind != SIGN || size == 0)) {
+                size++;
+                addByte(text[place], size);
                 place++;
             }
-            if (couldJoin && start == behind && (kind == WORD || kind == AMOUNT)) {
+            boolean joins = couldJoin && start == behind && (kind == WORD || kind == AMOUNT);
+            if (joins || kind == WORD && size > NAME_LETTERS || kind == AMOUNT && size > MOST_DIGITS) {
                 kind = BAD;
             }
+            own = kind == WORD ? findOwn(value) : NONE;
+        }
+
+        /** A name's first letter stands highest, so that letters behind it are 0. */
+        private void addByte(byte c, int size) {
+            if (kind == SIGN) {
+                value = c;
+            } else if (kind == WORD && size <= NAME_LETTERS) {
+                value |= c - 'a' + 1 << LETTER_BITS * (NAME_LETTERS - size);
+            } else if (kind == AMOUNT && size <= MOST_DIGITS) {
+                value = value * 10 + c - '0';
+            }
+        }
+
+        private int findOwn(int name) {
+            for (int w = 0; w < OWN_WORDS; w++) {
+                if (ownNames[w] == name) {
+                    return w;
+                }
+            }
+            return NONE;
+        }
+
+        private static int kindOf(byte c) {
+            if (c >= 'a' && c <= 'z') {
+                return WORD;
+            }
+            if (c >= '0' && c <= '9') {
+                return AMOUNT;
+            }
+            return c == 10 || c == 32 ? BLANK : SIGN;
         }
 
         boolean isSign(char sign) {
@@ -604,46 +638,6 @@ public final class ShortEnough {
 
         boolean isName() {
             return kind == WORD && own == NONE;
-        }
-
-        private void readWord() {
-            int letters = 0;
-            for (; place < length && isLetter(text[place]); place++) {
-                if (letters < NAME_LETTERS) {
-                    int shift = LETTER_BITS * (NAME_LETTERS - 1 - letters);
-                    value |= text[place] - 'a' + 1 << shift;
-                }
-                letters++;
-            }
-            kind = letters <= NAME_LETTERS ? WORD : BAD;
-            for (int w = 0; w < OWN_WORDS; w++) {
-                if (ownNames[w] == value) {
-                    own = w;
-                }
-            }
-        }
-
-        private void readAmount() {
-            int digits = 0;
-            for (; place < length && isDigit(text[place]); place++) {
-                if (digits < MOST_DIGITS) {
-                    value = value * 10 + text[place] - '0';
-                }
-                digits++;
-            }
-            kind = digits <= MOST_DIGITS ? AMOUNT : BAD;
-        }
-
-        private static boolean isBlank(byte c) {
-            return c == 10 || c == 32;
-        }
-
-        private static boolean isLetter(byte c) {
-            return c >= 'a' && c <= 'z';
-        }
-
-        private static boolean isDigit(byte c) {
-            return c >= '0' && c <= '9';
         }
     }
 
@@ -659,7 +653,7 @@ public final class ShortEnough {
         private static final int MOST_V = 1000000;
         private static final int MOST_WITHIN = 1000000;
 
-        private final Scanner scanner = new Scanner();
+        private final Words words = new Words();
         private int got;
         int faultKind;
         int faultPlace = NONE;
@@ -668,17 +662,14 @@ public final class ShortEnough {
             faultKind = 0;
             faultPlace = NONE;
             task.clear();
-            scanner.open(tape, length);
-            for (int s = 0; s <= MOST_STATEMENTS && scanner.kind != Scanner.AT_END; s++) {
+            words.open(tape, length);
+            for (int s = 0; s <= MOST_STATEMENTS && words.kind != Words.AT_END; s++) {
                 if (!readStatement(task, s)) {
                     return false;
                 }
             }
-            if (task.formats == 0 || task.numbers.count == 0) {
-                return stopAt(4, length);
-            }
-            task.settle();
-            return true;
+            boolean whole = task.formats > 0 && task.numbers.count > 0;
+            return whole || stopAt(4, length);
         }
 
         private boolean stopAt(int kind, int place) {
@@ -688,48 +679,46 @@ public final class ShortEnough {
         }
 
         private boolean readStatement(Task task, int before) {
-            int own = scanner.kind == Scanner.WORD ? scanner.own : NONE;
+            int own = words.own;
             if (!startsStatement(own)) {
-                return stopAt(1, scanner.start);
+                return stopAt(1, words.start);
             }
             if (before >= MOST_STATEMENTS || isFull(task, own)) {
-                return stopAt(4, scanner.start);
+                return stopAt(4, words.start);
             }
-            scanner.advance();
-            return readRest(task, own) && readSign(';');
+            words.advance();
+            boolean right;
+            switch (own) {
+                case Words.FORMAT: right = readFormat(task); break;
+                case Words.CAST: right = readCast(task); break;
+                case Words.BOX: right = readBox(task); break;
+                case Words.LET: right = readLet(task); break;
+                case Words.FIXED: right = readFixed(task); break;
+                case Words.GROUP: right = readGroup(task); break;
+                default: right = readAnswer(task); break;
+            }
+            return right && readSign(';');
         }
 
         private static boolean startsStatement(int own) {
             switch (own) {
-                case Scanner.FORMAT:
-                case Scanner.CAST:
-                case Scanner.BOX:
-                case Scanner.LET:
-                case Scanner.FIXED:
-                case Scanner.GROUP:
-                case Scanner.ANSWER: return true;
+                case Words.FORMAT:
+                case Words.CAST:
+                case Words.BOX:
+                case Words.LET:
+                case Words.FIXED:
+                case Words.GROUP:
+                case Words.ANSWER: return true;
                 default: return false;
             }
         }
 
         private static boolean isFull(Task task, int own) {
-            if (own == Scanner.FORMAT) {
+            if (own == Words.FORMAT) {
                 return task.formats >= MOST_FORMATS;
             }
-            boolean isNumber = own == Scanner.BOX || own == Scanner.LET;
+            boolean isNumber = own == Words.BOX || own == Words.LET;
             return isNumber && task.numbers.count >= MOST_NUMBERS;
-        }
-
-        private boolean readRest(Task task, int own) {
-            switch (own) {
-                case Scanner.FORMAT: return readFormat(task);
-                case Scanner.CAST: return readCast(task);
-                case Scanner.BOX: return readBox(task);
-                case Scanner.LET: return readLet(task);
-                case Scanner.FIXED: return readFixed(task);
-                case Scanner.GROUP: return readGroup(task);
-                default: return readAnswer(task);
-            }
         }
 
         private boolean readFormat(Task task) {
@@ -737,15 +726,15 @@ public final class ShortEnough {
                 return false;
             }
             int name = got;
-            if (!readOwn(Scanner.STEP) || !readAmount(1, MOST_STEP)) {
+            if (!readOwn(Words.STEP) || !readValue(false, 1, MOST_STEP)) {
                 return false;
             }
             int step = got;
-            if (!readOwn(Scanner.MOST) || !readAmount(1, MOST_MOST)) {
+            if (!readOwn(Words.MOST) || !readValue(false, 1, MOST_MOST)) {
                 return false;
             }
             int most = got;
-            if (!readOwn(Scanner.COST) || !readAmount(0, MOST_PRICE)) {
+            if (!readOwn(Words.COST) || !readValue(false, 0, MOST_PRICE)) {
                 return false;
             }
             task.addFormat(name, step, most, got);
@@ -753,7 +742,7 @@ public final class ShortEnough {
         }
 
         private boolean readCast(Task task) {
-            if (!readAmount(0, MOST_PRICE)) {
+            if (!readValue(false, 0, MOST_PRICE)) {
                 return false;
             }
             task.castPrice = got;
@@ -765,11 +754,11 @@ public final class ShortEnough {
                 return false;
             }
             int name = got;
-            if (!readSigned(-MOST_END, MOST_END)) {
+            if (!readValue(true, -MOST_END, MOST_END)) {
                 return false;
             }
             int least = got;
-            if (!readSigned(least, MOST_END)) {
+            if (!readValue(true, least, MOST_END)) {
                 return false;
             }
             task.numbers.prepare(0, NONE, least);
@@ -795,53 +784,53 @@ public final class ShortEnough {
         }
 
         private boolean readWhat(Task task, int side) {
-            if (scanner.kind == Scanner.WORD) {
-                boolean known = readNumber(task);
+            if (words.kind == Words.WORD) {
+                boolean known = readKnown(task.numbers.find(words.value));
                 task.numbers.prepare(side, known ? got : NONE, 0);
                 return known;
             }
-            boolean right = readSigned(-MOST_V, MOST_V);
+            boolean right = readValue(true, -MOST_V, MOST_V);
             task.numbers.prepare(side, NONE, right ? got : 0);
             return right;
         }
 
         private boolean readOp() {
-            if (scanner.isSign('+')) {
+            if (words.isSign('+')) {
                 got = PLUS;
-            } else if (scanner.isSign('-')) {
+            } else if (words.isSign('-')) {
                 got = MINUS;
-            } else if (scanner.isSign('*')) {
+            } else if (words.isSign('*')) {
                 got = TIMES;
-            } else if (scanner.isOwn(Scanner.MIN)) {
+            } else if (words.isOwn(Words.MIN)) {
                 got = LESSER;
-            } else if (scanner.isOwn(Scanner.MAX)) {
+            } else if (words.isOwn(Words.MAX)) {
                 got = GREATER;
             } else {
-                return stopAt(1, scanner.start);
+                return stopAt(1, words.start);
             }
-            scanner.advance();
+            words.advance();
             return true;
         }
 
         private boolean readFixed(Task task) {
-            if (!readNumber(task)) {
+            if (!readKnown(task.numbers.find(words.value))) {
                 return false;
             }
             int number = got;
-            if (!readKnownFormat(task)) {
+            if (!readKnown(task.findFormat(words.value))) {
                 return false;
             }
-            task.numbers.fixedAs[number] = got;
+            task.numbers.fix(number, got);
             return true;
         }
 
         private boolean readGroup(Task task) {
-            if (!readNumber(task)) {
+            if (!readKnown(task.numbers.find(words.value))) {
                 return false;
             }
             int first = got;
-            int place = scanner.start;
-            if (!readNumber(task)) {
+            int place = words.start;
+            if (!readKnown(task.numbers.find(words.value))) {
                 return false;
             }
             if (got == first) {
@@ -852,91 +841,74 @@ public final class ShortEnough {
         }
 
         private boolean readAnswer(Task task) {
-            if (!readNumber(task)) {
+            if (!readKnown(task.numbers.find(words.value))) {
                 return false;
             }
             int number = got;
-            if (!readOwn(Scanner.WITHIN) || !readAmount(0, MOST_WITHIN)) {
+            if (!readOwn(Words.WITHIN) || !readValue(false, 0, MOST_WITHIN)) {
                 return false;
             }
-            task.numbers.allowed[number] = got;
+            task.numbers.allow(number, got);
             return true;
         }
 
         private boolean readSign(char sign) {
-            if (!scanner.isSign(sign)) {
-                return stopAt(1, scanner.start);
+            if (!words.isSign(sign)) {
+                return stopAt(1, words.start);
             }
-            scanner.advance();
+            words.advance();
             return true;
         }
 
         private boolean readOwn(int word) {
-            if (!scanner.isOwn(word)) {
-                return stopAt(1, scanner.start);
+            if (!words.isOwn(word)) {
+                return stopAt(1, words.start);
             }
-            scanner.advance();
+            words.advance();
             return true;
         }
 
-        private boolean readAmount(int from, int to) {
-            if (scanner.kind != Scanner.AMOUNT) {
-                return stopAt(1, scanner.start);
-            }
-            return keepAmount(scanner.value, from, to, scanner.start);
-        }
-
-        private boolean readSigned(int from, int to) {
-            int place = scanner.start;
-            boolean isMinus = scanner.isSign('-');
+        private boolean readValue(boolean mayBeMinus, int from, int to) {
+            int place = words.start;
+            boolean isMinus = mayBeMinus && words.isSign('-');
             if (isMinus) {
-                scanner.advance();
+                words.advance();
             }
-            if (scanner.kind != Scanner.AMOUNT) {
-                return stopAt(1, scanner.start);
+            if (words.kind != Words.AMOUNT) {
+                return stopAt(1, words.start);
             }
-            return keepAmount(isMinus ? -scanner.value : scanner.value, from, to, place);
-        }
-
-        private boolean keepAmount(int amount, int from, int to, int place) {
-            if (amount < from || amount > to) {
+            int value = isMinus ? -words.value : words.value;
+            if (value < from || value > to) {
                 return stopAt(2, place);
             }
-            got = amount;
-            scanner.advance();
+            got = value;
+            words.advance();
             return true;
         }
 
         private boolean readNewName(Task task) {
-            if (!scanner.isName()) {
-                return stopAt(1, scanner.start);
+            if (!words.isName()) {
+                return stopAt(1, words.start);
             }
-            int name = scanner.value;
+            int name = words.value;
             if (task.findFormat(name) != NONE || task.numbers.find(name) != NONE) {
-                return stopAt(3, scanner.start);
+                return stopAt(3, words.start);
             }
             got = name;
-            scanner.advance();
+            words.advance();
             return true;
         }
 
-        private boolean readNumber(Task task) {
-            return readKnown(task.numbers.find(scanner.value));
-        }
-
-        private boolean readKnownFormat(Task task) {
-            return readKnown(task.findFormat(scanner.value));
-        }
-
+        /** A NAME that is there already; found is where its letters were found, or NONE. */
         private boolean readKnown(int found) {
-            if (!scanner.isName()) {
-                return stopAt(1, scanner.start);
+            if (!words.isName()) {
+                return stopAt(1, words.start);
             }
             if (found == NONE) {
-                return stopAt(3, scanner.start);
+                return stopAt(3, words.start);
             }
             got = found;
-            scanner.advance();
+            words.advance();
             return true;
         }
     }
@@ -1005,19 +977,20 @@ public final class ShortEnough {
         }
 
         boolean isFree(int i) {
-            return hasNumber(i) && groups.fixedAs[groups.of[i]] == NONE;
+            return hasNumber(i) && groups.isFree(groups.of[i]);
         }
 
         int formatOf(int[] choice, int i) {
-            return choice[groups.of[i]];
+            int group = i >= 0 && i < numbers.count ? groups.of[i] : NONE;
+            return group >= 0 && group < choice.length ? choice[group] : NONE;
         }
 
         int stepOf(int f) {
-            return hasFormat(f) ? step[f] : 1;
+            return f >= 0 && f < formats ? step[f] : 1;
         }
 
         int mostOf(int f) {
-            return hasFormat(f) ? most[f] : 0;
+            return f >= 0 && f < formats ? most[f] : 0;
         }
 
         int finestFormat() {
@@ -1094,6 +1067,9 @@ public final class ShortEnough {
         }
 
         void join(int a, int b) {
+            if (a < 0 || a >= count || b < 0 || b >= count) {
+                return;
+            }
             int from = joined[b];
             for (int i = 0; i < count; i++) {
                 if (joined[i] == from) {
@@ -1111,12 +1087,24 @@ public final class ShortEnough {
             return NONE;
         }
 
+        void fix(int i, int format) {
+            if (i >= 0 && i < count) {
+                fixedAs[i] = format;
+            }
+        }
+
+        void allow(int i, int error) {
+            if (i >= 0 && i < count) {
+                allowed[i] = error;
+            }
+        }
+
         int madeOf(int i, int side) {
-            return made[2 * i + side];
+            return i >= 0 && i < count && side >= 0 && side < 2 ? made[2 * i + side] : NONE;
         }
 
         long amountOf(int i, int side) {
-            return amount[2 * i + side];
+            return i >= 0 && i < count && side >= 0 && side < 2 ? amount[2 * i + side] : 0;
         }
 
         int countAnswers(int ahead) {
@@ -1189,20 +1177,17 @@ public final class ShortEnough {
             fixedAs[group] = fixedAs[group] == NONE ? format : UNLIKE;
         }
 
-        boolean isThere(int group) {
-            return group >= 0 && group < count;
+        boolean isFree(int group) {
+            return group >= 0 && group < count && fixedAs[group] == NONE;
         }
 
         int leaderOf(int group) {
-            return isThere(group) ? leader[group] : NONE;
+            return group >= 0 && group < count ? leader[group] : NONE;
         }
 
-        void firstChoice(int[] choice) {
-            fillFree(choice, 0);
-        }
-
+        /** The CHOICE with one FORMAT for all FREE GROUPS. */
         void fillFree(int[] choice, int format) {
-            for (int g = 0; g < count; g++) {
+            for (int g = 0; g < count && g < choice.length; g++) {
                 choice[g] = fixedAs[g] == NONE ? format : fixedAs[g];
             }
         }
@@ -1234,7 +1219,7 @@ public final class ShortEnough {
         }
 
         private boolean isWide(int made) {
-            return made >= 0 && wide[made];
+            return made >= 0 && made < MOST_NUMBERS && wide[made];
         }
 
         long amountOf(int i) {
@@ -1242,17 +1227,21 @@ public final class ShortEnough {
         }
 
         long amountOfWhat(Numbers numbers, int i, int side) {
-            return Math.max(Math.abs(lowOf(numbers, i, side)), Math.abs(highOf(numbers, i, side)));
+            int made = numbers.madeOf(i, side);
+            if (made < 0 || made >= i) {
+                return Math.abs(numbers.amountOf(i, side));
+            }
+            return Math.max(Math.abs(low[made]), Math.abs(high[made]));
         }
 
         private long lowOf(Numbers numbers, int i, int side) {
             int made = numbers.madeOf(i, side);
-            return made >= 0 ? low[made] : numbers.amountOf(i, side);
+            return made >= 0 && made < i ? low[made] : numbers.amountOf(i, side);
         }
 
         private long highOf(Numbers numbers, int i, int side) {
             int made = numbers.madeOf(i, side);
-            return made >= 0 ? high[made] : numbers.amountOf(i, side);
+            return made >= 0 && made < i ? high[made] : numbers.amountOf(i, side);
         }
 
         /** The least of a NUMBER by what stands here of those that it is made of. */
@@ -1342,7 +1331,7 @@ public final class ShortEnough {
             int step = task.stepOf(task.formatOf(choice, i));
             long half = step / 2;
             int made = task.numbers.madeOf(i, side);
-            if (made < 0) {
+            if (made < 0 || made >= i) {
                 return divides(step, task.numbers.amountOf(i, side)) ? 0 : half;
             }
             int ownStep = task.stepOf(task.formatOf(choice, made));
@@ -1356,11 +1345,10 @@ public final class ShortEnough {
         private final int[] choice = new int[MOST_NUMBERS];
         private boolean ready;
         private int answers;
-        private int[] which = new int[0];
         private int[] prices = new int[0];
         private int[] errors = new int[0];
-        private int best;
         int many;
+        int best = NONE;
         int bestPrice;
         private int frontOf = NONE;
         int frontSize;
@@ -1405,8 +1393,7 @@ public final class ShortEnough {
         }
 
         private void makeRoom(int choices) {
-            if (which.length < choices) {
-                which = new int[choices];
+            if (prices.length < choices) {
                 prices = new int[choices];
                 frontPrice = new int[choices];
                 frontError = new int[choices];
@@ -1418,7 +1405,7 @@ public final class ShortEnough {
         }
 
         /** CHOICE c, so counted that the last FREE GROUP changes first. */
-        private static void unfold(Task task, int c, int[] into) {
+        static void unfold(Task task, int c, int[] into) {
             int rest = c;
             for (int g = task.groups.count - 1; g >= 0; g--) {
                 int fixed = task.groups.fixedAs[g];
@@ -1431,10 +1418,9 @@ public final class ShortEnough {
         }
 
         private void keep(Task task, int c, int price) {
-            if (many >= which.length) {
+            if (many >= prices.length) {
                 return;
             }
-            which[many] = c;
             prices[many] = price;
             int at = many * answers;
             for (int i = 0; i < task.numbers.count; i++) {
@@ -1448,14 +1434,6 @@ public final class ShortEnough {
                 bestPrice = price;
             }
             many++;
-        }
-
-        boolean findCheapest(Task task, int[] into) {
-            if (!search(task) || best == NONE) {
-                return false;
-            }
-            unfold(task, best, into);
-            return true;
         }
 
         private int errorAt(int p, int slot) {
@@ -1545,14 +1523,10 @@ public final class ShortEnough {
             if (!task.hasChoice()) {
                 return false;
             }
-            if (!ready) {
-                ready = true;
-                halve(task);
+            if (ready) {
+                return started;
             }
-            return started;
-        }
-
-        private void halve(Task task) {
+            ready = true;
             int finest = task.finestFormat();
             task.groups.fillFree(row, finest);
             for (int g = 0; g < MOST_NUMBERS; g++) {
@@ -1566,6 +1540,7 @@ public final class ShortEnough {
                     halveWith(task, f, finest);
                 }
             }
+            return started;
         }
 
         private void halveWith(Task task, int format, int finest) {
@@ -1754,7 +1729,7 @@ public final class ShortEnough {
 
         private static long whatOf(Task task, long[] values, int i, int side) {
             int made = task.numbers.madeOf(i, side);
-            return made >= 0 ? values[made] : task.numbers.amountOf(i, side);
+            return made >= 0 && made < i ? values[made] : task.numbers.amountOf(i, side);
         }
     }
 }

@@ -1,0 +1,221 @@
+import com.sun.source.tree.*;
+import com.sun.source.util.JavacTask;
+import com.sun.source.util.SourcePositions;
+import com.sun.source.util.TreePath;
+import com.sun.source.util.TreePathScanner;
+import com.sun.source.util.Trees;
+import java.io.File;
+import java.io.IOException;
+import java.lang.reflect.Field;
+import java.lang.reflect.Method;
+import java.lang.reflect.Modifier;
+import java.util.ArrayList;
+import java.util.Arrays;
+import java.util.HashMap;
+import java.util.List;
+import java.util.Map;
+import java.util.Set;
+import java.util.TreeSet;
+import javax.lang.model.element.Element;
+import javax.lang.model.element.ElementKind;
+import javax.lang.model.element.ExecutableElement;
+import javax.tools.JavaCompiler;
+import javax.tools.StandardJavaFileManager;
+import javax.tools.ToolProvider;
+
+/** The rules of LANGUAGE.md that a tree of the source can show. */
+public final class LanguageTest {
+    private static final File SOURCE = new File("src/main/java/ShortEnough.java");
+    private static final Set<String> LIBRARY = Set.of("java.lang.Math.max", "java.lang.Math.min", "java.lang.Math.abs",
+        "java.lang.Math.floorDiv", "java.lang.String.charAt", "java.lang.String.length");
+    private static final Set<Tree.Kind> BANNED = Set.of(Tree.Kind.THROW, Tree.Kind.TRY, Tree.Kind.CATCH,
+        Tree.Kind.SYNCHRONIZED, Tree.Kind.ASSERT, Tree.Kind.LAMBDA_EXPRESSION, Tree.Kind.MEMBER_REFERENCE,
+        Tree.Kind.IMPORT, Tree.Kind.PACKAGE, Tree.Kind.SWITCH_EXPRESSION, Tree.Kind.ANNOTATION,
+        Tree.Kind.DOUBLE_LITERAL, Tree.Kind.FLOAT_LITERAL, Tree.Kind.INSTANCE_OF, Tree.Kind.NULL_LITERAL);
+    private static final String FACE = "feed(int,int,int,int,int):int end(int):boolean task():int fault(int):int "
+        + "has(int):int letter(int,boolean,int):int format(int,int):int number(int,int):int told(int,int):long "
+        + "range(int,boolean):long uses(int):int depth(int):int chosen(int):int choose(int,int):int cost():int "
+        + "casts():int fails():int why():int error(int):long slack(int):long widest(int):int blame(int,int):long "
+        + "cheapest(int):int passing():int halves(int):int single(int):int take(int):int front(int,int,int):long "
+        + "least(int,int):long certificate(int):int check():boolean broken(int):int trials(int,int):long "
+        + "trial(int,boolean):long seed(int):boolean status(int):int";
+
+    private final Due due = new Due("LanguageTest");
+    private final Map<String, Set<String>> calls = new HashMap<>();
+    private final Set<String> faceNames = new TreeSet<>();
+    private Trees trees;
+    private CompilationUnitTree unit;
+    private int classes;
+
+    public static void main(String[] args) throws IOException {
+        LanguageTest test = new LanguageTest();
+        test.face();
+        test.source();
+        test.depths();
+        test.due.end();
+    }
+
+    /** Rule 1: just the face of the document. */
+    private void face() {
+        Set<String> want = new TreeSet<>(Arrays.asList(FACE.split(" ")));
+        Set<String> got = new TreeSet<>();
+        for (Method m : ShortEnough.class.getDeclaredMethods()) {
+            if (!Modifier.isPrivate(m.getModifiers())) {
+                got.add(told(m));
+                due.is(m + " is public, no static", Modifier.isPublic(m.getModifiers())
+                    && !Modifier.isStatic(m.getModifiers()), true);
+            }
+        }
+        got.addAll(want);
+        due.is("methods of the face: " + got, got.size(), want.size());
+        for (String method : want) {
+            faceNames.add(method.substring(0, method.indexOf('(')));
+            long many = Arrays.stream(ShortEnough.class.getMethods()).filter(m -> told(m).equals(method)).count();
+            due.is(method, many, 1);
+        }
+        int open = 0;
+        for (Field f : ShortEnough.class.getDeclaredFields()) {
+            open += Modifier.isPrivate(f.getModifiers()) ? 0 : 1;
+        }
+        due.is("NONE and NOTHING alone are no private fields", open, 2);
+        due.is("constructors", ShortEnough.class.getDeclaredConstructors().length, 1);
+        due.is("public final", ShortEnough.class.getModifiers(), Modifier.PUBLIC | Modifier.FINAL);
+    }
+
+    private static String told(Method m) {
+        List<String> types = new ArrayList<>();
+        for (Class<?> type : m.getParameterTypes()) {
+            types.add(type.getName());
+        }
+        return m.getName() + "(" + String.join(",", types) + "):" + m.getReturnType().getName();
+    }
+
+    private void source() throws IOException {
+        JavaCompiler compiler = ToolProvider.getSystemJavaCompiler();
+        try (StandardJavaFileManager files = compiler.getStandardFileManager(null, null, null)) {
+            JavacTask task = (JavacTask) compiler.getTask(null, files, null, List.of("-proc:none"), null,
+                files.getJavaFileObjects(SOURCE));
+            unit = task.parse().iterator().next();
+            task.analyze();
+            trees = Trees.instance(task);
+            new Rules().scan(unit, null);
+        }
+        due.is("some twelve classes", classes <= 12, true);
+    }
+
+    private int lines(Tree tree) {
+        SourcePositions positions = trees.getSourcePositions();
+        LineMap map = unit.getLineMap();
+        return (int) (map.getLineNumber(positions.getEndPosition(unit, tree))
+            - map.getLineNumber(positions.getStartPosition(unit, tree)) + 1);
+    }
+
+    /** Rule 11: calls go eight deep at most, those of the library too; there is no recursion. */
+    private void depths() {
+        for (String method : calls.keySet()) {
+            int depth = depth(method, 1);
+            due.is(method + " goes " + depth + " deep", depth <= 8, true);
+        }
+    }
+
+    private int depth(String method, int level) {
+        int deepest = 1;
+        if (level > 30) {
+            return 30;
+        }
+        for (String called : calls.getOrDefault(method, Set.of())) {
+            deepest = Math.max(deepest, 1 + depth(called, level + 1));
+        }
+        return deepest;
+    }
+
+    private final class Rules extends TreePathScanner<Void, Void> {
+        private String method = "";
+
+        @Override
+        public Void scan(Tree tree, Void none) {
+            if (tree != null) {
+                due.is(tree.getKind() + " at " + tree, BANNED.contains(tree.getKind()), false);
+            }
+            return super.scan(tree, none);
+        }
+
+        @Override
+        public Void visitClass(ClassTree tree, Void none) {
+            classes++;
+            boolean top = getCurrentPath().getParentPath().getLeaf() == unit;
+            boolean nested = getCurrentPath().getParentPath().getLeaf() instanceof ClassTree;
+            due.is(tree.getSimpleName() + " is a class of the file or a static one in it", top || nested
+                && tree.getModifiers().getFlags().contains(javax.lang.model.element.Modifier.STATIC), true);
+            int fields = 0;
+            for (Tree member : tree.getMembers()) {
+                due.is("no initialiser block", member instanceof BlockTree, false);
+                boolean isStatic = member instanceof VariableTree v
+                    && v.getModifiers().getFlags().contains(javax.lang.model.element.Modifier.STATIC);
+                if (isStatic) {
+                    VariableTree v = (VariableTree) member;
+                    due.is(v.getName() + " is final", v.getModifiers().getFlags()
+                        .contains(javax.lang.model.element.Modifier.FINAL), true);
+                    due.is(v.getName() + " is a constant",
+                        Set.of("int", "long", "String").contains(v.getType().toString()), true);
+                }
+                fields += member instanceof VariableTree && !isStatic ? 1 : 0;
+            }
+            due.is(tree.getSimpleName() + " has " + fields + " fields", fields <= 20, true);
+            return super.visitClass(tree, none);
+        }
+
+        @Override
+        public Void visitMethod(MethodTree tree, Void none) {
+            String before = method;
+            Element element = trees.getElement(getCurrentPath());
+            method = name(element);
+            calls.putIfAbsent(method, new TreeSet<>());
+            boolean isFace = tree.getModifiers().getFlags().contains(javax.lang.model.element.Modifier.PUBLIC);
+            due.is(method + " is short", lines(tree) <= 60, true);
+            due.is(method + " has few parameters", tree.getParameters().size() <= 7, true);
+            due.is(method + " bears no name of the face",
+                !isFace && faceNames.contains(tree.getName().toString()), false);
+            super.visitMethod(tree, none);
+            method = before;
+            return null;
+        }
+
+        @Override
+        public Void visitMethodInvocation(MethodInvocationTree tree, Void none) {
+            Element element = trees.getElement(new TreePath(getCurrentPath(), tree.getMethodSelect()));
+            String called = name(element);
+            boolean own = called.startsWith("ShortEnough");
+            boolean isSuper = called.endsWith(".<init>");
+            due.is(called + " is in the library's list", own || isSuper || LIBRARY.contains(called), true);
+            if (!isSuper) {
+                calls.get(method).add(called);
+            }
+            return super.visitMethodInvocation(tree, none);
+        }
+
+        @Override
+        public Void visitNewClass(NewClassTree tree, Void none) {
+            due.is("no class without a name", tree.getClassBody() != null, false);
+            return super.visitNewClass(tree, none);
+        }
+
+        @Override
+        public Void visitBinary(BinaryTree tree, Void none) {
+            String type = trees.getTypeMirror(getCurrentPath()).toString();
+            due.is("no joined text: " + tree, type.contains("String"), false);
+            boolean divides = tree.getKind() == Tree.Kind.DIVIDE || tree.getKind() == Tree.Kind.REMAINDER;
+            boolean constant = tree.getRightOperand() instanceof LiteralTree
+                || tree.getRightOperand().toString().matches("[A-Z_]+");
+            boolean tested = Set.of("step", "task.formats").contains(tree.getRightOperand().toString());
+            due.is("a divisor is a constant or was looked at: " + tree, divides && !constant && !tested, false);
+            return super.visitBinary(tree, none);
+        }
+
+        private String name(Element element) {
+            boolean isCall = element.getKind() == ElementKind.METHOD || element.getKind() == ElementKind.CONSTRUCTOR;
+            return element.getEnclosingElement() + "." + (isCall
+                ? ((ExecutableElement) element).getSimpleName() : element.getSimpleName());
+        }
+    }
+}
