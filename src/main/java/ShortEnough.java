@@ -492,11 +492,11 @@ public final class ShortEnough {
     }
 
     private static int letterOf(int name, int k) {
-        return name >> (LETTER_BITS * (NAME_LETTERS - 1 - k)) & 31;
+        return (name >> (LETTER_BITS * (NAME_LETTERS - 1 - k))) & 31;
     }
 
     private static int byteOf(long value, int k) {
-        return (int) (value >> (8 * (7 - k)) & 255);
+        return (int) ((value >> (8 * (7 - k))) & 255);
     }
 
     private static boolean divides(long step, long amount) {
@@ -563,7 +563,7 @@ public final class ShortEnough {
                 for (int k = 0; k < NAME_LETTERS; k++) {
                     int at = w * OWN_WIDTH + k;
                     char c = at < OWN_TEXT.length() ? OWN_TEXT.charAt(at) : ' ';
-                    ownNames[w] = ownNames[w] << LETTER_BITS | (c == ' ' ? 0 : c - 'a' + 1);
+                    ownNames[w] = (ownNames[w] << LETTER_BITS) | (c == ' ' ? 0 : c - 'a' + 1);
                 }
             }
         }
@@ -603,7 +603,7 @@ public final class ShortEnough {
             if (kind == SIGN) {
                 value = c;
             } else if (kind == WORD && size <= NAME_LETTERS) {
-                value |= c - 'a' + 1 << LETTER_BITS * (NAME_LETTERS - size);
+                value |= (c - 'a' + 1) << (LETTER_BITS * (NAME_LETTERS - size));
             } else if (kind == AMOUNT && size <= MOST_DIGITS) {
                 value = value * 10 + c - '0';
             }
@@ -1126,7 +1126,7 @@ public final class ShortEnough {
         }
 
         private static boolean isAmong(int from, int bits, int i) {
-            return i == from || i >= 0 && (bits >> i & 1) == 1;
+            return i == from || i >= 0 && ((bits >> i) & 1) == 1;
         }
     }
 
@@ -1694,7 +1694,7 @@ public final class ShortEnough {
         private static long readLong(byte[] tape, int at) {
             long value = 0;
             for (int k = at; k < at + 8 && k < tape.length; k++) {
-                value = value << 8 | tape[k] & 255;
+                value = (value << 8) | (tape[k] & 255);
             }
             return Math.max(-HELD_WITHIN, Math.min(HELD_WITHIN, value));
         }
@@ -1712,10 +1712,10 @@ public final class ShortEnough {
                 int step = task.stepOf(task.formatOf(choice, i));
                 int op = task.numbers.op[i];
                 if (op == INPUT) {
-                    x = 1103515245L * x + 12345 & Integer.MAX_VALUE;
+                    x = (1103515245L * x + 12345) & Integer.MAX_VALUE;
                     long least = task.numbers.amountOf(i, 0);
                     long size = task.numbers.amountOf(i, 1) - least + 1;
-                    exact[i] = least + (x * size >> 31);
+                    exact[i] = least + ((x * size) >> 31);
                     kept[i] = nearest(exact[i], 1, step);
                 } else {
                     exact[i] = apply(op, whatOf(task, exact, i, 0), whatOf(task, exact, i, 1), 1);

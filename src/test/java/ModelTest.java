@@ -11,7 +11,7 @@ public final class ModelTest {
         "trials", "trial", "seed", "status", "fault", "feed", "end", "task", "choose", "choose", "error"};
 
     private final Due due = new Due("ModelTest");
-    private final Random random = new Random(20261117);
+    private final Random random;
     private int tasks;
     private int faults;
     private int passes;
@@ -21,8 +21,13 @@ public final class ModelTest {
     private ShortEnough x;
     private Model m;
 
+    private ModelTest(long seed) {
+        random = new Random(seed);
+    }
+
+    /** Other runs than those of .ci/run: with a number as the argument. */
     public static void main(String[] args) {
-        ModelTest test = new ModelTest();
+        ModelTest test = new ModelTest(args.length > 0 ? Long.parseLong(args[0]) : 20261117);
         for (int run = 0; run < RUNS && test.due.isRight(); run++) {
             test.run(run);
         }
