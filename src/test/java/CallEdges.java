@@ -600,6 +600,9 @@ final class CallEdges {
         due.is("ends at 19999999", Due.with(box.replace("20000000", "19999999")).widest(0), 9999999);
         due.is("ends at 10000000", Due.with(box.replace("most 20000000", "most 10000000")).widest(0), 0);
         due.is("ends at 10000001", Due.with(box.replace("most 20000000", "most 10000001")).widest(0), 1);
+        String far = "format f step 1 most 15000000 cost 0;input a ";
+        due.is("the lower end at -15000000", Due.with(far + "-10000000 -9999999;").widest(0), 5000000);
+        due.is("the upper end at 15000000", Due.with(far + "9999999 10000000;").widest(0), 5000000);
         String wide = "format f step 1 most 99999999 cost 0;input a 3 7;";
         due.is("no further than 10000000", Due.with(wide).widest(0), 10000000);
         due.is("the lower end", Due.with("format f step 1 most 100 cost 0;input a -90 7;").widest(0), 10);

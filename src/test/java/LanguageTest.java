@@ -16,6 +16,7 @@ import java.util.List;
 import java.util.Map;
 import java.util.Set;
 import java.util.TreeSet;
+import java.util.regex.Pattern;
 import javax.lang.model.element.Element;
 import javax.lang.model.element.ElementKind;
 import javax.lang.model.element.ExecutableElement;
@@ -26,12 +27,19 @@ import javax.tools.ToolProvider;
 /** The rules of LANGUAGE.md that a tree of the source can show. */
 public final class LanguageTest {
     private static final File SOURCE = new File("src/main/java/ShortEnough.java");
-    private static final Set<String> LIBRARY = Set.of("java.lang.Math.max", "java.lang.Math.min", "java.lang.Math.abs",
-        "java.lang.Math.floorDiv", "java.lang.String.charAt", "java.lang.String.length");
+    /** Rule 4. */
+    private static final Pattern LIBRARY = Pattern.compile(
+        "java.lang.String.(length|charAt|isEmpty|equals|indexOf|substring|toCharArray)"
+        + "|java.lang.(StringBuilder|AbstractStringBuilder).(append|charAt|setCharAt|setLength|deleteCharAt|reverse|length|toString)"
+        + "|java.util.(ArrayList<E>|List<E>).(add|get|set|remove|size|isEmpty|clear|of)"
+        + "|java.lang.(Integer|Long|Math).(?!\\w*Exact$)\\w+"
+        + "|java.lang.System.arraycopy|java.util.Arrays.(copyOf|copyOfRange|fill)|Array.clone");
+    /** Rule 6, and lambdas and method references of rule 2. */
     private static final Set<Tree.Kind> BANNED = Set.of(Tree.Kind.THROW, Tree.Kind.TRY, Tree.Kind.CATCH,
         Tree.Kind.SYNCHRONIZED, Tree.Kind.ASSERT, Tree.Kind.LAMBDA_EXPRESSION, Tree.Kind.MEMBER_REFERENCE,
-        Tree.Kind.IMPORT, Tree.Kind.PACKAGE, Tree.Kind.SWITCH_EXPRESSION, Tree.Kind.ANNOTATION,
-        Tree.Kind.DOUBLE_LITERAL, Tree.Kind.FLOAT_LITERAL, Tree.Kind.INSTANCE_OF, Tree.Kind.NULL_LITERAL);
+        Tree.Kind.PACKAGE);
+    private static final Set<String> CONSTANTS = Set.of("int", "long", "boolean", "char", "String",
+        "int[]", "long[]", "char[]", "byte[]");
     private static final String FACE = "feed(int,int,int,int,int):int end(int):boolean task():int fault(int):int "
         + "has(int):int letter(int,boolean,int):int format(int,int):int number(int,int):int told(int,int):long "
         + "range(int,boolean):long uses(int):int depth(int):int chosen(int):int choose(int,int):int cost():int "
@@ -131,6 +139,7 @@ public final class LanguageTest {
 
     private final class Rules extends TreePathScanner<Void, Void> {
         private String method = "";
+        private String body = "";
 
         @Override
         public Void scan(Tree tree, Void none) {
@@ -157,7 +166,7 @@ public final class LanguageTest {
                     due.is(v.getName() + " is final", v.getModifiers().getFlags()
                         .contains(javax.lang.model.element.Modifier.FINAL), true);
                     due.is(v.getName() + " is a constant",
-                        Set.of("int", "long", "String").contains(v.getType().toString()), true);
+                        CONSTANTS.contains(v.getType().toString()), true);
                 }
                 fields += member instanceof VariableTree && !isStatic ? 1 : 0;
             }
@@ -168,8 +177,10 @@ public final class LanguageTest {
         @Override
         public Void visitMethod(MethodTree tree, Void none) {
             String before = method;
+            String bodyBefore = body;
             Element element = trees.getElement(getCurrentPath());
             method = name(element);
+            body = "" + tree.getBody();
             calls.putIfAbsent(method, new TreeSet<>());
             boolean isFace = tree.getModifiers().getFlags().contains(javax.lang.model.element.Modifier.PUBLIC);
             due.is(method + " is short", lines(tree) <= 60, true);
@@ -178,6 +189,7 @@ public final class LanguageTest {
                 !isFace && faceNames.contains(tree.getName().toString()), false);
             super.visitMethod(tree, none);
             method = before;
+            body = bodyBefore;
             return null;
         }
 
@@ -187,7 +199,10 @@ public final class LanguageTest {
             String called = name(element);
             boolean own = called.startsWith("ShortEnough");
             boolean isSuper = called.endsWith(".<init>");
-            due.is(called + " is in the library's list", own || isSuper || LIBRARY.contains(called), true);
+            due.is(called + " is in the library's list", own || isSuper || LIBRARY.matcher(called).matches(), true);
+            if (called.matches("java.lang.Math.floor(Div|Mod)")) {
+                isLookedAt(tree.getArguments().get(1));
+            }
             if (!isSuper) {
                 calls.get(method).add(called);
             }
@@ -204,12 +219,57 @@ public final class LanguageTest {
         public Void visitBinary(BinaryTree tree, Void none) {
             String type = trees.getTypeMirror(getCurrentPath()).toString();
             due.is("no joined text: " + tree, type.contains("String"), false);
-            boolean divides = tree.getKind() == Tree.Kind.DIVIDE || tree.getKind() == Tree.Kind.REMAINDER;
-            boolean constant = tree.getRightOperand() instanceof LiteralTree
-                || tree.getRightOperand().toString().matches("[A-Z_]+");
-            boolean tested = Set.of("step", "task.formats").contains(tree.getRightOperand().toString());
-            due.is("a divisor is a constant or was looked at: " + tree, divides && !constant && !tested, false);
+            if (tree.getKind() == Tree.Kind.DIVIDE || tree.getKind() == Tree.Kind.REMAINDER) {
+                isLookedAt(tree.getRightOperand());
+            }
+            if (tree.getKind() == Tree.Kind.EQUAL_TO || tree.getKind() == Tree.Kind.NOT_EQUAL_TO) {
+                due.is("no == of texts, of Integers: " + tree, isBoxed(tree.getLeftOperand())
+                    && isBoxed(tree.getRightOperand()), false);
+            }
             return super.visitBinary(tree, none);
+        }
+
+        @Override
+        public Void visitCompoundAssignment(CompoundAssignmentTree tree, Void none) {
+            if (tree.getKind() == Tree.Kind.DIVIDE_ASSIGNMENT || tree.getKind() == Tree.Kind.REMAINDER_ASSIGNMENT) {
+                isLookedAt(tree.getExpression());
+            }
+            return super.visitCompoundAssignment(tree, none);
+        }
+
+        /** Rule 9: a counter against a bound. */
+        @Override
+        public Void visitForLoop(ForLoopTree tree, Void none) {
+            due.is("a bound in " + tree.getCondition(), ("" + tree.getCondition()).matches("(?s).*[<>].*"), true);
+            return super.visitForLoop(tree, none);
+        }
+
+        @Override
+        public Void visitWhileLoop(WhileLoopTree tree, Void none) {
+            due.is("a bound in " + tree.getCondition(), tree.getCondition().toString().matches("(?s).*[<>].*"), true);
+            return super.visitWhileLoop(tree, none);
+        }
+
+        @Override
+        public Void visitImport(ImportTree tree, Void none) {
+            due.is(tree + " is in the library's list", tree.getQualifiedIdentifier().toString()
+                .matches("java.util.(ArrayList|List|Arrays|Iterator)"), true);
+            return super.visitImport(tree, none);
+        }
+
+        private boolean isBoxed(Tree operand) {
+            String type = "" + trees.getTypeMirror(new TreePath(getCurrentPath(), operand));
+            return type.equals("java.lang.String") || type.equals("java.lang.Integer");
+        }
+
+        /** Rule 7: each name in a divisor is compared with something in the same method. */
+        private void isLookedAt(ExpressionTree divisor) {
+            for (String part : divisor.toString().split("[*()\\s]+")) {
+                boolean constant = part.matches("[0-9]+L?|[A-Z_]+|");
+                String name = Pattern.quote(part);
+                boolean compared = Pattern.compile("(^|[^\\w.])" + name + " (==|!=|<|>|<=|>=) ").matcher(body).find();
+                due.is("a divisor is a constant or was looked at: " + divisor + " in " + method, constant || compared, true);
+            }
         }
 
         private String name(Element element) {
