@@ -1341,6 +1341,9 @@ public final class ShortEnough {
 
     /** All CHOICES that PASS, found once for a TASK. */
     private static final class FullSearch {
+        // What passes has ERRORS of ANSWERS of at most a million.
+        private static final int ABOVE_ALL_ERRORS = 1000001;
+
         private final Reckoning reckoning = new Reckoning();
         private final int[] choice = new int[MOST_NUMBERS];
         private boolean ready;
@@ -1437,7 +1440,8 @@ public final class ShortEnough {
         }
 
         private int errorAt(int p, int slot) {
-            return errors[p * answers + slot];
+            int at = p * answers + slot;
+            return at >= 0 && at < errors.length ? errors[at] : ABOVE_ALL_ERRORS;
         }
 
         long leastWithin(Task task, int answer, int price) {
@@ -1458,7 +1462,7 @@ public final class ShortEnough {
             frontOf = answer;
             frontSize = 0;
             int slot = task.numbers.countAnswers(answer);
-            int below = Integer.MAX_VALUE;
+            int below = ABOVE_ALL_ERRORS;
             for (int k = 0; k < many; k++) {
                 int p = cheapestBelow(slot, below);
                 if (p == NONE) {
@@ -1702,6 +1706,8 @@ public final class ShortEnough {
 
     /** TRIALS: all NUMBERS as they are EXACT, as they are KEPT. */
     private static final class Sampler {
+        private static final long DRAWS = 1L << 31;
+
         final long[] exact = new long[MOST_NUMBERS];
         final long[] kept = new long[MOST_NUMBERS];
 
@@ -1712,10 +1718,10 @@ public final class ShortEnough {
                 int step = task.stepOf(task.formatOf(choice, i));
                 int op = task.numbers.op[i];
                 if (op == INPUT) {
-                    x = (1103515245L * x + 12345) & Integer.MAX_VALUE;
+                    x = (1103515245L * x + 12345) % DRAWS;
                     long least = task.numbers.amountOf(i, 0);
                     long size = task.numbers.amountOf(i, 1) - least + 1;
-                    exact[i] = least + ((x * size) >> 31);
+                    exact[i] = least + x * size / DRAWS;
                     kept[i] = nearest(exact[i], 1, step);
                 } else {
                     exact[i] = apply(op, whatOf(task, exact, i, 0), whatOf(task, exact, i, 1), 1);

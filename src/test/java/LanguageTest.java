@@ -209,6 +209,17 @@ public final class LanguageTest {
             return super.visitMethodInvocation(tree, none);
         }
 
+        /** Rule 4 lists functions of the library, no constants. */
+        @Override
+        public Void visitMemberSelect(MemberSelectTree tree, Void none) {
+            Element element = trees.getElement(getCurrentPath());
+            boolean isField = element != null && element.getKind() == ElementKind.FIELD;
+            boolean isLength = isField && tree.getIdentifier().contentEquals("length");
+            due.is(tree + " is no constant of the library",
+                !isField || isLength || name(element).startsWith("ShortEnough"), true);
+            return super.visitMemberSelect(tree, none);
+        }
+
         @Override
         public Void visitNewClass(NewClassTree tree, Void none) {
             due.is("no class without a name", tree.getClassBody() != null, false);
