@@ -1,5 +1,9 @@
+import java.util.ArrayList;
 import java.util.Arrays;
+import java.util.List;
 import java.util.Random;
+import java.util.regex.Matcher;
+import java.util.regex.Pattern;
 
 /** Runs of random calls on the class and on the model, whose answers are due. */
 public final class ModelTest {
@@ -10,10 +14,15 @@ public final class ModelTest {
         "cheapest", "passing", "halves", "single", "take", "front", "least", "certificate", "check", "broken",
         "trials", "trial", "seed", "status", "fault", "feed", "end", "task", "choose", "choose", "error"};
 
+    private static final String[] TOKENS = {"format", "step", "most", "cost", "cast", "input", "let", "min", "max",
+        "fixed", "group", "answer", "within", ";", "=", "-", "+", "*", "0", "999", "1000", "1000000", "1000001",
+        "10000000", "10000001", "99999999", "123456789", "f", "ff", "nb", "naxyz", "abcdef", "abcdefg"};
+
     private final Due due = new Due("ModelTest");
     private final Random random;
     private int tasks;
     private int faults;
+    private final int[] faultKinds = new int[5];
     private int passes;
     private int certificatesHeld;
     private int fronts;
@@ -31,10 +40,12 @@ public final class ModelTest {
         for (int run = 0; run < RUNS && test.due.isRight(); run++) {
             test.run(run);
         }
-        System.out.println("ModelTest: tasks " + test.tasks + ", faults " + test.faults + ", passes " + test.passes
+        System.out.println("ModelTest: tasks " + test.tasks + ", faults " + test.faults
+            + ", by kinds " + Arrays.toString(test.faultKinds) + ", passes " + test.passes
             + ", certificates " + test.certificatesHeld + ", fronts " + test.fronts + ", halves " + test.halvesChanged);
         boolean rich = test.tasks > 500 && test.faults > 500 && test.passes > 1000 && test.certificatesHeld > 100
-            && test.fronts > 100 && test.halvesChanged > 100;
+            && test.fronts > 100 && test.halvesChanged > 100
+            && Arrays.stream(test.faultKinds).allMatch(many -> many > 50);
         test.due.is("the runs are rich", rich, true);
         test.due.end();
     }
@@ -71,8 +82,10 @@ public final class ModelTest {
         int formats = pick(1, 2, 2, 3, 3, 4);
         int scale = pick(1000, 1000, 20000, 1000000, 10000000);
         boolean loose = random.nextInt(4) > 0;
+        boolean coarse = random.nextInt(8) == 0;
         for (int f = 0; f < formats; f++) {
-            int step = pick(1, 2, 3, 5, 7, 10, 10, 20, 50, 100, 100, 250, 1000);
+            int step = coarse ? pick(1, 999, 4096, 100000, 333333, 500000, 999999, 1000000)
+                : pick(1, 2, 3, 5, 7, 10, 10, 20, 50, 100, 100, 250, 1000);
             int most = loose ? pick(99999999, 99999999, 50000000) : scale * pick(1, 2, 3);
             text.append("format").append(blank()).append("f".repeat(f + 1)).append(" step ").append(step)
                 .append(" most ").append(Math.min(most, 99999999)).append(" cost ").append(pick(0, 1, 2, 3, 5, 9, 999)).append(';');
@@ -97,7 +110,7 @@ public final class ModelTest {
         }
         for (int k = random.nextInt(4); k > 0; k--) {
             text.append("answer ").append(name(random.nextInt(numbers))).append(" within ")
-                .append(pick(5, 20, 60, 100, 300, 1000, 10000, 1000000)).append(';').append(blank());
+                .append(pick(0, 5, 20, 60, 100, 300, 1000, 10000, 999999, 1000000)).append(';').append(blank());
         }
         return text.toString();
     }
@@ -155,19 +168,50 @@ public final class ModelTest {
         return copy.length() > 1200 ? copy.substring(0, 1200) : copy.toString();
     }
 
+    /** A text with a word, a number, a sign less, more, or another one; or a STATEMENT told many times. */
+    private String respelt(String text) {
+        List<String> tokens = new ArrayList<>();
+        Matcher token = Pattern.compile("[a-z]+|[0-9]+|[^a-z0-9\\s]").matcher(text);
+        while (token.find()) {
+            tokens.add(token.group());
+        }
+        int at = random.nextInt(tokens.size());
+        String other = random.nextBoolean() ? TOKENS[random.nextInt(TOKENS.length)]
+            : tokens.get(random.nextInt(tokens.size()));
+        switch (random.nextInt(5)) {
+            case 0 -> tokens.remove(at);
+            case 1 -> tokens.add(at, other);
+            case 2, 3 -> tokens.set(at, other);
+            default -> {
+                int end = at + tokens.subList(at, tokens.size()).indexOf(";") + 1;
+                List<String> statement = List.copyOf(tokens.subList(lastStart(tokens, at), end));
+                for (int k = pick(1, 1, 10, 30, 40); k > 0; k--) {
+                    tokens.addAll(end, statement);
+                }
+            }
+        }
+        String spelt = String.join(" ", tokens);
+        return spelt.length() > 1200 ? spelt.substring(0, 1200) : spelt;
+    }
+
+    private static int lastStart(List<String> tokens, int at) {
+        return tokens.subList(0, at).lastIndexOf(";") + 1;
+    }
+
     private void tellTask(String at, boolean maySpoil) {
         String text = randomTask();
         while (text.length() > 1200) {
             text = randomTask();
         }
         boolean spoil = maySpoil && random.nextInt(4) > 0;
-        String told = spoil ? spoilt(text) : text;
+        String told = !spoil ? text : random.nextBoolean() ? spoilt(text) : respelt(text);
         put(Due.bytes(told));
         due.is(at + "task() of " + told, x.task(), m.task());
         due.is(at + "fault(0) of " + told, x.fault(0), m.fault(0));
         due.is(at + "fault(1) of " + told, x.fault(1), m.fault(1));
         tasks += m.fault(0) == 0 ? 1 : 0;
         faults += m.fault(0) != 0 ? 1 : 0;
+        faultKinds[m.fault(0)]++;
         if (m.fault(0) == 0 && random.nextBoolean()) {
             int what = pick(0, 1);
             due.is(at + "take(" + what + ")", x.take(what), m.take(what));

@@ -269,6 +269,11 @@ final class SearchCallEdges {
         front(Due.with("format p step 1 most 9999 cost 1;format q step 1 most 9999 cost 1;format r step 1 most 9999 cost 1;"
             + "format s step 1 most 9999 cost 1;input a 0 1;input b 0 1;input c 0 1;input d 0 1;input e 0 1;answer e within 0;"),
             4, new long[] {5, 0, 1024});
+        // The greatest ERROR that an ANSWER may have; one more does not PASS.
+        String million = "format p step 1000000 most 99999999 cost 1;input a 0 0;let b = a + a;answer b within 1000000;";
+        front(Due.with(million), 1, new long[] {2, 1000000, 1});
+        due.is("least(1, 2)", Due.with(million).least(1, 2), 1000000);
+        front(Due.with(million.replace("within 1000000", "within 999999")), 1);
     }
 
     private void least() {
