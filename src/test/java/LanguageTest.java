@@ -9,6 +9,7 @@ import java.io.IOException;
 import java.lang.reflect.Field;
 import java.lang.reflect.Method;
 import java.lang.reflect.Modifier;
+import java.nio.file.Files;
 import java.util.ArrayList;
 import java.util.Arrays;
 import java.util.HashMap;
@@ -16,6 +17,7 @@ import java.util.List;
 import java.util.Map;
 import java.util.Set;
 import java.util.TreeSet;
+import java.util.regex.Matcher;
 import java.util.regex.Pattern;
 import javax.lang.model.element.Element;
 import javax.lang.model.element.ElementKind;
@@ -27,6 +29,7 @@ import javax.tools.ToolProvider;
 /** The rules of LANGUAGE.md that a tree of the source can show. */
 public final class LanguageTest {
     private static final File SOURCE = new File("src/main/java/ShortEnough.java");
+    private static final File DOCUMENT = new File("../shared/DOC.md");
     /** Rule 4. */
     private static final Pattern LIBRARY = Pattern.compile(
         "java.lang.String.(length|charAt|isEmpty|equals|indexOf|substring|toCharArray)"
@@ -58,6 +61,7 @@ public final class LanguageTest {
     public static void main(String[] args) throws IOException {
         LanguageTest test = new LanguageTest();
         test.face();
+        test.faceAsTold();
         test.source();
         test.depths();
         test.due.end();
@@ -88,6 +92,25 @@ public final class LanguageTest {
         due.is("NONE and NOTHING alone are no private fields", open, 2);
         due.is("constructors", ShortEnough.class.getDeclaredConstructors().length, 1);
         due.is("public final", ShortEnough.class.getModifiers(), Modifier.PUBLIC | Modifier.FINAL);
+    }
+
+    /** The face above, and the constants, are those of the document's code block. */
+    private void faceAsTold() throws IOException {
+        if (!DOCUMENT.canRead()) {
+            return;
+        }
+        String text = Files.readString(DOCUMENT.toPath()).replaceAll("(?s)^.*?```java\n|```.*$", "");
+        List<String> methods = new ArrayList<>();
+        Matcher method = Pattern.compile("public (int|long|boolean) (\\w+)\\((.*)\\);").matcher(text);
+        while (method.find()) {
+            methods.add(method.group(2) + "(" + method.group(3).replaceAll(" \\w+(, |$)", ",").replaceAll(",$", "")
+                + "):" + method.group(1));
+        }
+        due.is("the document's face: " + methods, String.join(" ", methods).equals(FACE), true);
+        String lines = "public static final int NONE = " + ShortEnough.NONE + ";\n"
+            + "    public static final long NOTHING = " + ShortEnough.NOTHING + "L;\n    public ShortEnough();\n";
+        due.is("the document's constants", text.contains(lines), true);
+        due.is("lines of the face", text.lines().filter(line -> line.endsWith(";")).count(), methods.size() + 3);
     }
 
     private static String told(Method m) {
